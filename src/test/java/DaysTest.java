@@ -15,10 +15,8 @@ public final class DaysTest {
             Check.numbers("end", book.end(), day);
             Check.numbers("day", book.day(), day);
         }
-        Check.refuses(book, Check.STATE, "the last day", () -> book.end());
         book.addPatrol();
         book.addScout(0, 12, 0);
-        Check.refuses(book, Check.ARGUMENT, "the day before the last", () -> book.giveDuty(59, 0, 0));
         Check.numbers("duties of the last day", book.findDuties(), 4);
         Check.numbers("the watch of the last day", book.duty(60, 4), 0);
     }

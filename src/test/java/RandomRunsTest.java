@@ -1,13 +1,17 @@
+import java.util.function.Supplier;
+
 /** Long runs of calls, drawn by a fixed rule, with each answer and exception compared with the model's. */
 public final class RandomRunsTest {
     private static final int RUNS = 200;
     private static final int CALLS = 512;
+    private static final int CALL_KINDS = 32;
+    private static final int DIGEST = 31;
     private static final int[] ODD = {
         -2, -1, 0, 1, 5, 6, 7, 8, 9, 10, 12, 17, 18, 24, 25, 30, 50, 51, 60, 61, 100, 101, 255, 256,
         3000, 3001, 10000, 10001, Integer.MAX_VALUE, Integer.MIN_VALUE,
     };
-    private static final int[] COUNTS = new int[32];
-    private static final int[] THROWN = new int[32];
+    private static final int[] COUNTS = new int[CALL_KINDS];
+    private static final int[] THROWN = new int[CALL_KINDS];
 
     private static long seed;
 
@@ -16,7 +20,7 @@ public final class RandomRunsTest {
             seed = run * 7919L + 1;
             oneRun(run);
         }
-        for (int call = 0; call < 32; call++) {
+        for (int call = 0; call < CALL_KINDS; call++) {
             Check.same("call " + call + " answered often", COUNTS[call] - THROWN[call] > 100, true);
         }
         Check.end();
@@ -35,9 +39,9 @@ public final class RandomRunsTest {
         return least + below(greatest - least + 1);
     }
 
-    /** Mostly the number of a thing that is there; the range is some larger, so that it may be missing. */
-    private static int numberOf(CampBook book, int what) {
-        return draw(0, book.count(what) - 1);
+    /** Mostly the number of a thing that is there, if there is one. */
+    private static int numberOf(Model model, int what) {
+        return draw(0, model.count(what) - 1);
     }
 
     private static void oneRun(int run) {
@@ -47,26 +51,23 @@ public final class RandomRunsTest {
         int youngest = 6 + below(9);
         int oldest = Math.min(17, youngest + 1 + below(11));
         for (int i = 0; i < CALLS; i++) {
-            int call = i < 60 ? early() : below(32);
-            int[] x = arguments(book, call, youngest, oldest);
-            long set = setOfScouts(book);
-            Object due = Check.outcome(() -> ofModel(model, call, x, set));
-            Object got = Check.outcome(() -> ofBook(book, call, x, set));
+            int call = i % 8 == 7 ? DIGEST : i < 60 ? early() : below(CALL_KINDS);
+            int[] x = arguments(model, call, youngest, oldest);
+            long set = setOfScouts(model);
+            Object due = outcome(() -> ofModel(model, call, x, set));
+            Object got = outcome(() -> ofBook(book, call, x, set));
             COUNTS[call]++;
             THROWN[call] += due instanceof Class ? 1 : 0;
-            String what = "run " + run + " call " + i + " of " + call + "(" + x[0] + "," + x[1] + "," + x[2] + ")";
-            Check.same(what, got, due);
-            Check.same(what + ": digest", book.digest(), model.digest());
-            Check.same(what + ": best meal", book.table(2), model.table(2));
+            Check.same("run " + run + " call " + i + " of " + call + "(" + x[0] + "," + x[1] + "," + x[2] + ")",
+                    got, due);
         }
-        pastDutiesAgree(run, book, model);
     }
 
-    private static void pastDutiesAgree(int run, CampBook book, Model model) {
-        for (int day = 0; day <= 60; day++) {
-            for (int kind = 0; kind < 5; kind++) {
-                Check.same("run " + run + ": duty", book.duty(day, kind), model.duty(day, kind));
-            }
+    private static Object outcome(Supplier<Object> call) {
+        try {
+            return call.get();
+        } catch (RuntimeException e) {
+            return e.getClass();
         }
     }
 
@@ -75,8 +76,8 @@ public final class RandomRunsTest {
         return adding[below(adding.length)];
     }
 
-    private static long setOfScouts(CampBook book) {
-        int scouts = book.count(1);
+    private static long setOfScouts(Model model) {
+        int scouts = model.count(1);
         long set = below(8) == 0 ? 0 : 1L << below(scouts + 1);
         for (int i = below(6); i > 0 && scouts > 0; i--) {
             set |= 1L << below(scouts);
@@ -84,31 +85,31 @@ public final class RandomRunsTest {
         return below(40) == 0 ? set | 1L << below(64) : set;
     }
 
-    private static int[] arguments(CampBook book, int call, int youngest, int oldest) {
+    private static int[] arguments(Model model, int call, int youngest, int oldest) {
         switch (call) {
-            case 1: return three(numberOf(book, 0), draw(youngest, oldest), draw(0, 255));
-            case 2: return three(numberOf(book, 1), draw(0, 6), 0);
+            case 1: return three(numberOf(model, 0), draw(youngest, oldest), draw(0, 255));
+            case 2: return three(numberOf(model, 1), draw(0, 6), 0);
             case 3: return three(draw(1, 8), 0, 0);
-            case 4: return three(numberOf(book, 1), below(3) == 0 ? -1 : numberOf(book, 2), 0);
-            case 5: return three(numberOf(book, 2), 0, 0);
+            case 4: return three(numberOf(model, 1), below(3) == 0 ? -1 : numberOf(model, 2), 0);
+            case 5: return three(numberOf(model, 2), 0, 0);
             case 7: return three(draw(0, 6), 0, 0);
-            case 8: return three(book.day() + draw(0, 3), draw(0, 4), below(5) == 0 ? -1 : numberOf(book, 0));
+            case 8: return three(model.day() + draw(0, 3), draw(0, 4), below(5) == 0 ? -1 : numberOf(model, 0));
             case 9: return three(draw(0, 60), draw(0, 4), 0);
-            case 10: return three(numberOf(book, 0), 0, 0);
+            case 10: return three(numberOf(model, 0), 0, 0);
             case 12: return three(below(3) == 0 ? draw(0, 300) : draw(0, 10000), 0, 0);
-            case 13: return three(numberOf(book, 4), below(3) == 0 ? draw(1, 10000) : draw(1, 300), 0);
-            case 14: return three(numberOf(book, 4), 0, 0);
-            case 15: return three(numberOf(book, 1), numberOf(book, 4), below(3));
-            case 17: return three(numberOf(book, 5), numberOf(book, 4), below(3) == 0 ? 0 : draw(0, 50));
+            case 13: return three(numberOf(model, 4), below(3) == 0 ? draw(1, 10000) : draw(1, 300), 0);
+            case 14: return three(numberOf(model, 4), 0, 0);
+            case 15: return three(numberOf(model, 1), numberOf(model, 4), below(3));
+            case 17: return three(numberOf(model, 5), numberOf(model, 4), below(3) == 0 ? 0 : draw(0, 50));
             case 18:
-            case 20: return three(numberOf(book, 5), 0, 0);
-            case 19: return three(numberOf(book, 5), numberOf(book, 4), draw(1, 100));
+            case 20: return three(numberOf(model, 5), 0, 0);
+            case 19: return three(numberOf(model, 5), numberOf(model, 4), draw(1, 100));
             case 21: return three(draw(0, 2), 0, 0);
             case 22: return three(draw(6, oldest), 0, 0);
-            case 23: return three(numberOf(book, 6), draw(0, 9), below(3) == 0 ? draw(0, 100) : draw(0, 10));
-            case 24: return three(numberOf(book, 0), draw(0, 9), draw(1, 24));
+            case 23: return three(numberOf(model, 6), draw(0, 9), below(3) == 0 ? draw(0, 100) : draw(0, 10));
+            case 24: return three(numberOf(model, 0), draw(0, 9), draw(1, 24));
             case 25:
-            case 26: return three(numberOf(book, 1), numberOf(book, 6), 0);
+            case 26: return three(numberOf(model, 1), numberOf(model, 6), 0);
             case 27: return three(draw(1, 50), draw(0, 3000), 0);
             default: return three(0, 0, 0);
         }

@@ -4,7 +4,6 @@ public final class ScoutsTest {
         newBookIsEmpty();
         patrolsAreNumberedUpToSix();
         scoutsAreNumberedUpToThirty();
-        scoutsAreRefusedInTheNamedOrder();
         scoutTellsAllItsFacts();
         countTellsAllNumbers();
         Check.end();
@@ -41,7 +40,6 @@ public final class ScoutsTest {
         for (int patrol = 0; patrol < 6; patrol++) {
             Check.numbers("addPatrol", book.addPatrol(), patrol);
         }
-        Check.refuses(book, Check.STATE, "the seventh patrol", () -> book.addPatrol());
     }
 
     private static void scoutsAreNumberedUpToThirty() {
@@ -50,29 +48,6 @@ public final class ScoutsTest {
             Check.numbers("addScout", book.addScout(0, 6 + scout % 12, scout * 8), scout);
             Check.numbers("it sleeps in no tent", book.scout(scout, 4), -1);
         }
-        Check.refuses(book, Check.STATE, "the scout 30", () -> book.addScout(0, 10, 0));
-        Check.refuses(book, Check.ARGUMENT, "a wrong age comes first", () -> book.addScout(0, 5, 0));
-        Check.refuses(book, Check.INDEX, "a wrong patrol comes first", () -> book.addScout(1, 5, 0));
-    }
-
-    private static void scoutsAreRefusedInTheNamedOrder() {
-        CampBook book = new CampBook();
-        Check.refuses(book, Check.INDEX, "no patrol yet", () -> book.addScout(0, 10, 0));
-        book.addPatrol();
-        int[] wrongPatrols = {-1, 1, 6, Integer.MAX_VALUE, Integer.MIN_VALUE};
-        for (int patrol : wrongPatrols) {
-            Check.refuses(book, Check.INDEX, "patrol " + patrol, () -> book.addScout(patrol, 0, -1));
-        }
-        int[] wrongAges = {5, 18, -1, 0, Integer.MAX_VALUE, Integer.MIN_VALUE};
-        for (int age : wrongAges) {
-            Check.refuses(book, Check.ARGUMENT, "age " + age, () -> book.addScout(0, age, 0));
-        }
-        int[] wrongSkills = {-1, 256, Integer.MAX_VALUE, Integer.MIN_VALUE};
-        for (int skills : wrongSkills) {
-            Check.refuses(book, Check.ARGUMENT, "skills " + skills, () -> book.addScout(0, 10, skills));
-        }
-        Check.numbers("the least age", book.addScout(0, 6, 0), 0);
-        Check.numbers("the greatest age", book.addScout(0, 17, 255), 1);
     }
 
     private static void scoutTellsAllItsFacts() {
@@ -97,14 +72,6 @@ public final class ScoutsTest {
             Check.numbers("scout(0, " + what + ")", book.scout(0, what), first[what]);
             Check.numbers("scout(1, " + what + ")", book.scout(1, what), second[what]);
         }
-        int[] wrongScouts = {-1, 2, 30, Integer.MAX_VALUE, Integer.MIN_VALUE};
-        for (int scout : wrongScouts) {
-            Check.refuses(book, Check.INDEX, "scout " + scout, () -> book.scout(scout, 0));
-        }
-        int[] wrongFacts = {-1, 7, Integer.MAX_VALUE, Integer.MIN_VALUE};
-        for (int what : wrongFacts) {
-            Check.refuses(book, Check.INDEX, "what " + what, () -> book.scout(0, what));
-        }
     }
 
     private static void countTellsAllNumbers() {
@@ -128,10 +95,6 @@ public final class ScoutsTest {
         int[] due = {1, 5, 2, 3, 4, 6, 7};
         for (int what = 0; what < 7; what++) {
             Check.numbers("count(" + what + ")", book.count(what), due[what]);
-        }
-        int[] wrong = {-1, 7, Integer.MAX_VALUE, Integer.MIN_VALUE};
-        for (int what : wrong) {
-            Check.refuses(book, Check.INDEX, "count(" + what + ")", () -> book.count(what));
         }
     }
 }
