@@ -74,7 +74,8 @@ public final class EdgesOfScoutsTest {
     }
 
     private static void agesAndSkillsHaveRanges() {
-        Check.sentence("Promise 3", "Throws `IllegalArgumentException` if age is not 6 to 17, or skills is not 0 to 255");
+        Check.sentence("Promise 3",
+                "Throws `IllegalArgumentException` if age is not 6 to 17, or skills is not 0 to 255");
         Edge.range("age", Edge.ARGUMENT, 6, 17, Camps::used, (b, age) -> b.addScout(1, age, 5));
         Edge.range("skills", Edge.ARGUMENT, 0, 255, Camps::used, (b, skills) -> b.addScout(1, 10, skills));
         for (int age : new int[] {6, 17}) {
@@ -118,7 +119,8 @@ public final class EdgesOfScoutsTest {
     }
 
     private static void scoutTellsOfEachScoutThere() {
-        Check.sentence("Promise 4", "Throws `IndexOutOfBoundsException` if there is no such scout, or what is not 0 to 6");
+        Check.sentence("Promise 4",
+                "Throws `IndexOutOfBoundsException` if there is no such scout, or what is not 0 to 6");
         Edge.refusesOutside("of none, scout", Edge.INDEX, 0, -1, Camps.of(), (b, scout) -> b.scout(scout, 0));
         Edge.refuses("of none, scout 0", Edge.INDEX, Camps.of(), b -> b.scout(0, 0));
         for (int what = 0; what < 7; what++) {
@@ -130,7 +132,8 @@ public final class EdgesOfScoutsTest {
     }
 
     private static void factsAreSevenOfEach() {
-        Check.sentence("Promise 4", "Throws `IndexOutOfBoundsException` if there is no such scout, or what is not 0 to 6");
+        Check.sentence("Promise 4",
+                "Throws `IndexOutOfBoundsException` if there is no such scout, or what is not 0 to 6");
         Edge.range("what", Edge.INDEX, 0, 6, Camps::used, (b, what) -> b.scout(4, what));
         Edge.refuses("no scout and no such fact", Edge.INDEX, Camps::used, b -> b.scout(5, 7));
     }
