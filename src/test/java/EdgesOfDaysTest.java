@@ -4,6 +4,7 @@ import java.math.BigInteger;
 public final class EdgesOfDaysTest {
     public static void main(String[] args) {
         daysGoFromZeroToSixty();
+        dayIsTold();
         lastDayStaysAsItIs();
         nextDayIsAFreshOne();
         meanAgeGoesFromNoneToAll();
@@ -25,15 +26,22 @@ public final class EdgesOfDaysTest {
 
     private static void daysGoFromZeroToSixty() {
         Check.sentence("Promise 30", "Throws `IllegalStateException` if it is day 60");
-        Edge.answers("the first day", 0, Camps::empty, CampBook::day);
         for (int day = 0; day < 60; day++) {
             Edge.answers("the end of day " + day, day + 1, ends(day), CampBook::end);
-            Edge.answers("the day behind it", day + 1, ends(day + 1), CampBook::day);
         }
         Edge.refuses("the end of day 60", Edge.STATE, ends(60), CampBook::end);
-        Edge.answers("it is still day 60", 60, ends(60).then(b -> Edge.outcome(CampBook::end, b)), CampBook::day);
         Edge.refuses("the end of day 60 once more", Edge.STATE, ends(60).then(b -> Edge.outcome(CampBook::end, b)),
                 CampBook::end);
+    }
+
+    private static void dayIsTold() {
+        Check.sentence("Promise 31", "Returns the day.");
+        Edge.answers("the first day", 0, Camps::empty, CampBook::day);
+        for (int day = 1; day <= 60; day++) {
+            Edge.answers("the day " + day, day, ends(day), CampBook::day);
+        }
+        Edge.answers("it is still day 60", 60, ends(60).then(b -> Edge.outcome(CampBook::end, b)), CampBook::day);
+        Edge.answers("a day with all in use", 1, Camps::used, CampBook::day);
     }
 
     private static void lastDayStaysAsItIs() {

@@ -13,11 +13,13 @@ import java.util.stream.Stream;
 
 /**
  * The sentences that the tests of the edges quote stand in the document, each in its section, and each
- * sentence there that names an exception is quoted: so a document that changes shows where tests do.
+ * promise and each sentence there that names an exception is quoted: so a document that changes shows
+ * where tests do.
  */
 public final class SentencesTest {
     private static final Path DOCUMENT = Path.of("../shared/DOC.md");
     private static final Path TESTS = Path.of("src/test/java");
+    private static final int PROMISES = 33;
     private static final Pattern QUOTE =
             Pattern.compile("Check\\.sentence\\(\\s*\"([^\"]*)\",((?:[\\s+]*\"[^\"]*\")+)\\)");
     private static final Pattern TEXT = Pattern.compile("\"([^\"]*)\"");
@@ -38,7 +40,12 @@ public final class SentencesTest {
         sections.forEach((section, text) -> text.lines().filter(line -> line.startsWith("Throws ")).forEach(line ->
                 Check.same(section + ", a test for '" + line + "'",
                         quotes.getOrDefault(section, Set.of()).contains(line), true)));
-        Check.same("there are promises", sections.containsKey("Promise 33"), true);
+        for (int promise = 1; promise <= PROMISES; promise++) {
+            String section = "Promise " + promise;
+            Check.same(section + " stands in the document", sections.containsKey(section), true);
+            Check.same(section + " has a test", quotes.containsKey(section), true);
+        }
+        Check.same("there is no promise more", sections.containsKey("Promise " + (PROMISES + 1)), false);
         Check.end();
     }
 
